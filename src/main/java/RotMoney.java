@@ -1131,6 +1131,7 @@ public final class RotMoney {
     // By store and coins: what is best from the day at hand, from the next one on, by patience.
     private int[] now = new int[STORES * PURSES];
     private int[] later = new int[STORES * PURSES];
+    // No act can hope for more from the next day on: what can't be better is not looked at.
     private int mostLater;
 
     Planner(Market market) {
@@ -1166,10 +1167,16 @@ public final class RotMoney {
       for (int store = 0; store < STORES; store++) {
         long had = purses[ahead * STORES + store];
         if (had != 0L) {
-          long full = had >>> MOST_COINS - earned != 0L ? 1L << MOST_COINS : 0L;
-          spend(had << earned & (1L << MOST_COINS) - 1 | full, store, terms.mostFromStore(store));
+          spend(withEarned(had, earned), store, terms.mostFromStore(store));
         }
       }
+    }
+
+    /** All purses with what is earned; those above 60 coins are full ones. */
+    private static long withEarned(long had, int earned) {
+      long full = 1L << MOST_COINS;
+      long notFull = had << earned & full - 1;
+      return had >>> MOST_COINS - earned == 0L ? notFull : notFull | full;
     }
 
     /** All acts of people with a store, for all their purses at once. */

@@ -1,4 +1,3 @@
-import java.io.IOException;
 import java.lang.reflect.Constructor;
 import java.lang.reflect.Field;
 import java.lang.reflect.Method;
@@ -134,12 +133,38 @@ public final class LanguageTest {
     must(found > 100, "the methods are found: " + found);
   }
 
-  public static void main(String[] args) throws IOException {
+  /** No call throws, whatever its numbers are. */
+  private static void extremes(String town) throws IllegalAccessException {
+    int[] numbers = {Integer.MIN_VALUE, -1, 0, 1, Integer.MAX_VALUE};
+    for (Method m : RotMoney.class.getDeclaredMethods()) {
+      int many = m.getParameterCount();
+      for (int i = 0; Modifier.isPublic(m.getModifiers()) && i < Math.pow(numbers.length, many); i++) {
+        if (many == 7 && i % 7 != 0) {
+          continue;
+        }
+        RotMoney x = new RotMoney();
+        Texts.town(x, town);
+        Object[] args = new Object[many];
+        for (int k = 0, rest = i; k < many; k++, rest /= numbers.length) {
+          args[k] = numbers[rest % numbers.length];
+        }
+        try {
+          m.invoke(x, args);
+        } catch (java.lang.reflect.InvocationTargetException e) {
+          must(false, "7: " + m.getName() + Arrays.toString(args) + " threw " + e.getCause());
+        }
+      }
+    }
+  }
+
+  public static void main(String[] args) throws Exception {
     String source = Files.readString(SOURCE);
     must(source.chars().allMatch(c -> c < 128), "4: signs up to 127");
     face();
     words(bare(source));
     methods(source);
+    extremes("");
+    extremes("rot 1 9;sort a 1 9 9;thing t 9 1;want a t 0 1 9;");
     System.out.println(wrong == 0 ? "the language is kept to" : wrong + " rules are broken");
     if (wrong != 0) {
       System.exit(1);

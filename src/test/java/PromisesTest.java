@@ -95,7 +95,9 @@ public final class PromisesTest {
     due("clauses", x.count(0), 13);
     x.way(0, 3);
     x.pass(3);
+    x.keep(0);
     x.keep(1);
+    x.keep(2);
     x.rest(0);
     Texts.values(x, "9 1;5 2;");
     due("fault", Texts.town(x, "rot"), RotMoney.NONE);
@@ -113,8 +115,12 @@ public final class PromisesTest {
     due("way", x.way(0, 3), 1);
     due("price as told", x.price(0, 2), 4);
     due("values 0", x.meet(0, 1, 100, 0, 1, 0), 0);
+    due("slot", x.take(0), RotMoney.STATE);
     due("slot", x.take(1), RotMoney.STATE);
+    due("slot", x.take(2), RotMoney.STATE);
     due("turns", x.restTurns(), RotMoney.NONE);
+    due("all letters and digits", Texts.town(x, "sort azaz 19 280 37;thing z 46 5;earn azaz 6 9;store z;"), 4);
+    due("people", x.told(20), 19);
   }
 
   private static void p05Fault() {
@@ -349,6 +355,8 @@ public final class PromisesTest {
     for (int i = 0; i < bad.length; i++) {
       due("wrong " + i, bad[i], RotMoney.RANGE);
     }
+    due("notes lose, however little",
+        with("rot 1 1;sort a 1 0 0;thing n 0 0;").wayAct(2, 0, 1, 60, 0), 32);
     // Worth on the seventh day counts (store for it), on the eighth it does not.
     RotMoney far = with("rot 0 900;sort a 1 1000 0;thing n 0 0;thing m 0 0;want a n 6 1 9;");
     due("seventh", far.wayAct(3, 0, 0, 5, 0), 16);
@@ -504,6 +512,18 @@ public final class PromisesTest {
     due("two weeks: 9 coins are left, which buy one more", y.worthAt(1, 2), 54 + 27);
     due("nights told 0 stay so", with("rot 0 0;sort a 1 0 20;thing n 0 0;want a n 1 3 9;").worthAt(18, 1), 27);
     due("without sorts", new RotMoney().rate(4), 0);
+    // 54 of a's 60 coins buy b three in the second week; less than 900 leaves b too few.
+    RotMoney most = with("rot 6 1;sort a 1 0 60;sort b 1 0 0;thing t 0 0;price t 0 18;want b t 0 3 9;chest b;");
+    due("the greatest rate", most.rate(2), 18);
+    due("its worth", most.worthAt(18, 2), 27);
+    due("850", most.worthAt(17, 2), 18);
+    due("a week has one day 0 alone", most.worthAt(18, 1), 0);
+    due("50: three coins", most.worthAt(1, 2), 0);
+    RotMoney steps = with("rot 6 1;sort a 1 0 60;sort b 1 0 0;thing t 0 0;price t 0 3;want b t 0 1 9;chest b;");
+    due("50 is enough", steps.rate(2), 1);
+    RotMoney weeks = with("sort a 2 0 0;thing t 0 0;earn a 6 5;want a t 6 1 9;");
+    due("one week", weeks.worthAt(0, 1), 18);
+    due("four weeks", weeks.worthAt(0, 4), 72);
     int[] bad = {x.worthAt(19, 1), x.worthAt(-1, 1), x.worthAt(0, 0), x.worthAt(0, 5), x.rate(0),
         x.rate(5)};
     for (int i = 0; i < bad.length; i++) {
@@ -587,6 +607,7 @@ public final class PromisesTest {
     due("early: from day 1 five nights", x.early(99, 5, 1), 99);
     due("early: days 6 and 0", x.early(90, 2, 6), 102);
     due("early: nothing", x.early(0, 60, 0), 0);
+    due("early: of one note one stamp", with("rot 0 1;").early(1, 1, 0), 2);
     due("early: too few", x.early(900, 1, 0), RotMoney.NONE);
     due("early: just", x.early(899, 1, 0), 999);
     due("early: 999", x.early(999, 0, 0), 999);
@@ -676,6 +697,12 @@ public final class PromisesTest {
     due("another day", Texts.book(x, "a t 2 1 1;"), 0);
     due("notes lose, but not so much", Texts.book(x, "a t 1 1 11;"), 0);
     due("notes lose, but too many", Texts.book(x, "a t 1 3 9;"), 0);
+    // 98000 against 99 times 990 and 99 times 989.
+    RotMoney edge = with("rot 1 10;rot 2 11;sort a 1 1 1;thing t 1 1;want a t 1 2 98;want a t 2 2 98;");
+    due("just not enough", Texts.book(edge, "a t 1 1 99;"), 0);
+    due("enough", Texts.book(edge, "a t 2 1 99;"), RotMoney.FULL);
+    due("who buys of two", Texts.book(with("sort a 1 1 1;sort b 1 1 1;thing t 1 1;want b t 1 2 9;"),
+        "b t 1 1 9;a t 1 1 9;"), 1);
     String[] texts = {"a t 0 3 1;a", "b t 0 1 1;", "a v 0 1 1;", "a t 7 1 1;", "a t 0 0 1;", "a t 0 4 1;",
         "a t 0 1 0;", "a t 0 1 100;", "a t 0 1 1", "a t 0 1 1 1;", ";", "1", "a t 0 1 00001;"};
     int[] kinds = {1, 5, 5, 2, 2, 2, 2, 2, 1, 1, 1, 1, 1};
