@@ -221,7 +221,7 @@ public final class RotMoney {
   }
 
   public int best(int sort, int day, int coins, int store, int n) {
-    if (!isPerson(sort, day, coins, store) || n < 0 || n > MOST_AHEAD) {
+    if (!isPerson(sort, day, coins, store) || !within(n, 0, MOST_AHEAD)) {
       return RANGE;
     }
     if (n == 0) {
@@ -232,7 +232,7 @@ public final class RotMoney {
   }
 
   public int bestAct(int sort, int day, int coins, int store, int n) {
-    if (!isPerson(sort, day, coins, store) || n < 0 || n > MOST_AHEAD) {
+    if (!isPerson(sort, day, coins, store) || !within(n, 0, MOST_AHEAD)) {
       return RANGE;
     }
     if (n == 0) {
@@ -693,7 +693,7 @@ public final class RotMoney {
     /** The fault of a clause's parts, from the token at hand to the semicolon; 0 without. */
     private int faultInParts(int clause, Town town) {
       String shape = shapeOf(clause);
-      for (int i = 0; i < shape.length(); i++) {
+      for (int i = 0; i < shape.length() && i < MOST_PARTS; i++) {
         char part = shape.charAt(i);
         boolean named = part >= 'a' && part <= 'z';
         if (tape.token != (named ? WORD : NUMBER)) {
@@ -1317,7 +1317,7 @@ public final class RotMoney {
     }
 
     void passDay(Run run, boolean bounded) {
-      int day = run.days % WEEK;
+      int day = Math.floorMod(run.days, WEEK);
       if (day == 0) {
         openChest(run);
       }
