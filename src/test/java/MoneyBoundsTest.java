@@ -129,6 +129,10 @@ public final class MoneyBoundsTest {
     for (int[] row : rows) {
       check.due("early " + row[0] + ", " + row[1] + ", " + row[2], x.early(row[0], row[1], row[2]), row[3]);
     }
+    RotMoney one = check.town("rot 0 1;");
+    check.due("the one stamp of two notes", one.early(1, 1, 0), 2);
+    check.due("the one stamp of 999", one.early(998, 1, 0), 999);
+    check.due("two stamps of two NIGHTS", one.early(1, 8, 0), 3);
     check.says("29: NONE: 999 don't do");
     check.due("899 is just left of 999", x.early(899, 1, 0), 999);
     check.due("900 is not", x.early(900, 1, 0), RotMoney.NONE);
@@ -368,6 +372,10 @@ public final class MoneyBoundsTest {
       check.due("book() of " + trade, Texts.book(y, trade), row[3]);
     }
     check.due("another THING", Texts.book(y, "a u 1 1 1;"), 0);
+    // 98000 against 99 times 990 and 99 times 989.
+    RotMoney z = check.town("rot 0 10;rot 1 11;sort a 1 1 1;thing t 1 1;want a t 0 1 98;want a t 1 1 98;");
+    check.due("98010", Texts.book(z, "a t 0 1 99;"), 0);
+    check.due("97911", Texts.book(z, "a t 1 1 99;"), RotMoney.FULL);
   }
 
   private static void bookFaults() {

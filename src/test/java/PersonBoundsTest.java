@@ -283,6 +283,7 @@ public final class PersonBoundsTest {
       check.due("n " + n, y.best(0, 3, 0, 0, n), 9 * n);
       check.due("ACT, n " + n, y.bestAct(0, 3, 0, 0, n), n == 0 ? RotMoney.NONE : 1);
     }
+    check.due("0 DAYS, after others", y.best(0, 3, 60, 5, 0), 0);
     RotMoney late = check.town("sort a 1 1000 0;thing t 0 0;earn a 0 5;want a t 6 1 1;");
     check.due("27 DAYS", late.best(0, 0, 0, 0, 27), 3);
     check.due("28 DAYS", late.best(0, 0, 0, 0, 28), 4);
@@ -290,6 +291,49 @@ public final class PersonBoundsTest {
     check.due("seven DAYS", late.best(0, 0, 0, 0, 7), 1);
     check.due("behind DAY 6 comes DAY 0", late.best(0, 6, 0, 0, 8), 1);
     check.due("it does not come within seven", late.best(0, 6, 0, 0, 7), 0);
+  }
+
+  private static void bestOfEach() {
+    check.says("II: of a PERSON of a SORT: each SORT has its own");
+    String text = "sort a 1 0 0;sort b 1 1000 0;sort c 1 500 0;sort d 1 1000 0;thing t 0 0;thing u 0 0;thing v 0 0;"
+        + "store v;price v 0 2;price v 1 20;price u 1 3;earn b 0 3;earn c 0 6;earn d 0 9;earn d 1 20;"
+        + "want b u 1 3 5;want c u 1 3 7;want d v 1 3 9;want d u 2 3 4;ill c 1;";
+    RotMoney x = check.town(text);
+    check.due("a wants nothing", x.best(0, 0, 60, 5, 2), 0);
+    check.due("b buys one on DAY 1", x.best(1, 0, 0, 0, 2), 5);
+    check.due("b waits", x.bestAct(1, 0, 0, 0, 2), 0);
+    check.due("c buys two: half of 14", x.best(2, 0, 0, 0, 2), 7);
+    check.due("d stores two at 2 and buys one at 20", x.best(3, 0, 0, 0, 2), 27);
+    check.due("d stores two at 2", x.bestAct(3, 0, 0, 0, 2), 32);
+    check.due("d has 5 left for a u on DAY 2", x.best(3, 0, 0, 0, 3), 31);
+    check.due("d on DAY 1 earns for one", x.best(3, 1, 0, 0, 1), 9);
+    check.due("c on DAY 1 has nothing", x.best(2, 1, 0, 0, 1), 0);
+    check.says("II: for his STORE of the THING that is stored, at its price");
+    check.due("two at 2", x.may(3, 0, 4, 0, 32), 1);
+    check.due("not for 3", x.may(3, 0, 3, 0, 32), 0);
+    check.due("one at 20", x.may(1, 1, 20, 0, 16), 1);
+    check.due("not for 19", x.may(1, 1, 19, 0, 16), 0);
+    check.due("SPEND", x.wayAct(0, 3, 0, 3, 0), 16);
+    check.due("SPEND: three of u, one of v", x.wayAct(0, 1, 1, 29, 0), 19);
+    check.due("SPEND: three of u alone", x.wayAct(0, 1, 1, 28, 0), 3);
+    check.due("c is ill on DAY 0", x.may(2, 0, 60, 0, 16), 0);
+    check.due("d is not", x.may(3, 0, 60, 0, 16), 1);
+    for (int sort = 0; sort < 4; sort++) {
+      x.way(sort, 1);
+    }
+    x.pass(1);
+    for (int sort = 0; sort < 4; sort++) {
+      check.due("SORT " + sort + " earned", x.run(sort, 0), 3 * sort);
+    }
+    check.says("II: what he eats of his STORE, what he pays for it, is gone on the DAYS that follow");
+    RotMoney eats = check.town("sort a 1 1000 0;thing t 0 0;want a t 0 3 9;want a t 1 3 9;want a t 2 3 9;");
+    check.due("five in three DAYS", eats.best(0, 0, 0, 5, 3), 45);
+    check.due("four in two DAYS", eats.best(0, 1, 0, 4, 2), 36);
+    check.due("four in one DAY", eats.best(0, 2, 0, 4, 1), 27);
+    RotMoney pays = check.town("sort a 1 1000 0;thing t 0 0;thing u 0 0;want a u 1 1 9;want a t 2 1 9;price t 1 20;"
+        + "price t 2 20;");
+    check.due("ten buy both", pays.best(0, 0, 10, 0, 3), 18);
+    check.due("nine don't", pays.best(0, 0, 9, 0, 3), 9);
   }
 
   private static void bestByPatience() {
@@ -443,6 +487,7 @@ public final class PersonBoundsTest {
     mayBounds();
     mayActs();
     bestBounds();
+    bestOfEach();
     bestByPatience();
     bestCoins();
     wayActBounds();

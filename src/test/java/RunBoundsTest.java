@@ -159,6 +159,8 @@ public final class RunBoundsTest {
     // Each got 13 and loses 12 of them in the same NIGHT; a loses all 6.
     check.due("got", late.run(1, 6), 52);
     check.due("CHEST", late.all(0), 2 + 4 * 12 + 6);
+    late.pass(7);
+    check.due("got in all: 56 more", late.run(1, 6), 52 + 56);
     chestFull();
   }
 
@@ -405,6 +407,11 @@ public final class RunBoundsTest {
     for (int w = 1; w <= 4; w++) {
       check.due("w " + w, x.worthAt(0, w), 54 * w);
     }
+    check.says("III: w weeks have their last DAY");
+    RotMoney last = check.town("sort a 2 0 0;thing t 0 0;earn a 6 5;want a t 6 1 9;");
+    for (int w = 1; w <= 4; w++) {
+      check.due("w " + w, last.worthAt(0, w), 18 * w);
+    }
     check.says("24: THE RATE in w weeks (1 .. 4): how many times 50");
     check.due("the least of alike ones", x.rate(1), 0);
     check.due("in four weeks", x.rate(4), 0);
@@ -548,11 +555,12 @@ public final class RunBoundsTest {
     check.due("never", swings.rest(0), 0);
     check.due("behind 60 more", swings.price(0, 0), 5);
     check.says("III: a RUN of one week as from the beginning by the WAYS as they are, without bounds of what is made");
-    RotMoney x = check.town("rot 0 900;sort a 1 0 5;thing t 0 0;make t 1 0;want a t 1 1 9;earn a 6 20;");
+    RotMoney x = check.town("sort a 1 0 0;thing t 0 0;make t 1 0;want a t 1 1 9;earn a 6 20;");
     x.pass(8);
-    check.due("he has few COINS on DAY 1 of the first week", x.rest(0), 1);
+    check.due("he has no COINS on DAY 1 of the first week", x.rest(0), 1);
     check.due("so that he buys none", x.restTurns(), 1);
     check.due("THE RUN stays", x.all(1), 8);
+    check.due("its COINS stay", x.run(0, 0), 20);
     RotMoney more2 = check.town("sort a 1 0 60;thing t 0 0;make t 0 0;want a t 0 1 9;");
     check.due("bought, though none is made", more2.rest(0), 1);
     check.due("up to 20", more2.price(0, 0), 20);

@@ -415,12 +415,34 @@ public final class TapeBoundsTest {
     }
     check.faulty(AHEAD + "thing u 1 1;want a t 3 1 0;want a u 3 1 0;", 3, 61);
     check.faulty("rot 1 1;rot 1 901;", 3, 12);
+    check.says("3 TWICE: with others told between");
+    check.faulty("rot 0 1;rot 1 1;rot 0 1;", 3, 20);
+    check.faulty("rot 6 1;rot 0 1;rot 1 1;rot 6 1;", 3, 28);
+    String all = "sort a 1 1 1;sort b 1 1 1;sort c 1 1 1;sort d 1 1 1;thing t 1 1;thing u 1 1;thing v 1 1;";
+    for (char sort = 'a'; sort <= 'd'; sort++) {
+      char other = sort == 'a' ? 'b' : 'a';
+      String ahead = all + "earn " + sort + " 3 1;earn " + other + " 3 1;earn " + sort + " 4 1;";
+      check.faulty(ahead + "earn " + sort + " 3 1;", 3, ahead.length() + 7);
+      ahead = all + "want " + sort + " u 3 1 1;want " + other + " v 3 1 1;want " + sort + " t 4 1 1;";
+      check.faulty(ahead + "want " + sort + " v 3 1 1;", 3, ahead.length() + 9);
+      ahead = all + "ill " + sort + " 3;ill " + other + " 3;";
+      check.faulty(ahead + "ill " + sort + " 4;", 3, ahead.length() + 4);
+      check.faulty(all + "sort " + sort + " 1 1 1;", 4, all.length());
+    }
+    for (char thing = 't'; thing <= 'v'; thing++) {
+      char other = thing == 't' ? 'u' : 't';
+      String ahead = all + "price " + thing + " 3 1;price " + other + " 3 1;price " + thing + " 4 1;";
+      check.faulty(ahead + "price " + thing + " 3 1;", 3, ahead.length() + 8);
+      ahead = all + "make " + thing + " 3 1;make " + other + " 3 1;make " + thing + " 4 1;";
+      check.faulty(ahead + "make " + thing + " 3 1;", 3, ahead.length() + 7);
+    }
     check.says("3 TWICE: of the same DAY, SORT, THING and clause alone");
     String two = "sort a 1 1 1;sort b 1 1 1;thing t 1 1;thing u 1 1;";
     check.clauses("rot 0 1;rot 1 1;rot 2 1;rot 3 1;rot 4 1;rot 5 1;rot 6 1;", 7);
     check.clauses(two + "earn a 0 1;earn b 0 1;earn a 1 1;earn b 6 1;", 8);
     check.clauses(two + "price t 0 1;price u 0 1;price t 1 1;make t 0 1;make u 0 1;make t 1 1;", 10);
     check.clauses(two + "want a t 0 1 1;want b t 0 1 1;want a u 1 1 1;want b u 6 1 1;", 8);
+    check.clauses(two + "want b t 0 1 1;want a t 0 1 1;want a u 1 1 1;want b u 1 1 1;", 8);
     check.clauses(two + "rot 0 1;earn a 0 1;price t 0 1;make t 0 1;want a t 0 1 1;ill a 1;", 10);
     check.says("3 TWICE: ill of a SORT again (at its name)");
     check.faulty(AHEAD + "ill a 1;ill a 2;", 3, 37);
@@ -518,6 +540,30 @@ public final class TapeBoundsTest {
       }
       check.due("value", x.meet(0, 3, 100, 0, 1, 0), 0);
       check.due("cost", x.meet(1, 3, 100, 0, 1, 1), 0);
+    }
+  }
+
+  private static void townForgets() {
+    check.says("1, 4: nothing is told but what the latest TOWN tells");
+    String full = "rot 2 9;sort a 9 9 9;sort b 9 9 9;thing t 9 9;thing u 9 9;earn b 2 9;price u 2 9;make u 2 9;"
+        + "want b u 2 3 9;ill b 4;chest b;store u;";
+    String bare = "sort a 1 1 1;sort b 1 1 1;thing t 1 1;thing u 1 1;";
+    RotMoney x = check.town(full);
+    Texts.town(x, full);
+    Texts.town(x, full + "?");
+    for (int again = 0; again < 3; again++) {
+      check.due("the bare town", Texts.town(x, bare), 4);
+      int[] got = {x.told(2), x.told(3), x.told(12), x.told(51), x.earns(1, 2), x.price(1, 2), x.made(1, 2),
+          x.wants(1, 2, 0), x.wants(1, 2, 1), x.wants(1, 2, 2)};
+      int[] due = {RotMoney.NONE, 0, 0, 0, 0, 5, RotMoney.NONE, RotMoney.NONE, 0, 0};
+      for (int i = 0; i < got.length; i++) {
+        check.due("number " + i, got[i], due[i]);
+      }
+    }
+    check.says("3 TWICE: of what this TOWN told");
+    for (int again = 0; again < 3; again++) {
+      check.due("the full town", Texts.town(x, full), 12);
+      check.due("a FAULT behind all of it", Texts.town(x, full + "?"), RotMoney.NONE);
     }
   }
 
@@ -627,6 +673,7 @@ public final class TapeBoundsTest {
     unknown();
     firstComeTo();
     townBegins();
+    townForgets();
     fault();
     told();
     count();
