@@ -297,7 +297,7 @@ public final class PersonBoundsTest {
     check.says("II: of a PERSON of a SORT: each SORT has its own");
     String text = "sort a 1 0 0;sort b 1 1000 0;sort c 1 500 0;sort d 1 1000 0;thing t 0 0;thing u 0 0;thing v 0 0;"
         + "store v;price v 0 2;price v 1 20;price u 1 3;earn b 0 3;earn c 0 6;earn d 0 9;earn d 1 20;"
-        + "want b u 1 3 5;want c u 1 3 7;want d v 1 3 9;want d u 2 3 4;ill c 1;";
+        + "want b u 1 3 5;want c u 1 3 7;want d v 1 3 9;want d u 2 1 99;price u 2 20;ill c 1;";
     RotMoney x = check.town(text);
     check.due("a wants nothing", x.best(0, 0, 60, 5, 2), 0);
     check.due("b buys one on DAY 1", x.best(1, 0, 0, 0, 2), 5);
@@ -305,7 +305,7 @@ public final class PersonBoundsTest {
     check.due("c buys two: half of 14", x.best(2, 0, 0, 0, 2), 7);
     check.due("d stores two at 2 and buys one at 20", x.best(3, 0, 0, 0, 2), 27);
     check.due("d stores two at 2", x.bestAct(3, 0, 0, 0, 2), 32);
-    check.due("d has 5 left for a u on DAY 2", x.best(3, 0, 0, 0, 3), 31);
+    check.due("d keeps what he earns on DAY 1 for a u on DAY 2", x.best(3, 0, 0, 0, 3), 18 + 99);
     check.due("d on DAY 1 earns for one", x.best(3, 1, 0, 0, 1), 9);
     check.due("c on DAY 1 has nothing", x.best(2, 1, 0, 0, 1), 0);
     check.says("II: for his STORE of the THING that is stored, at its price");
@@ -369,6 +369,16 @@ public final class PersonBoundsTest {
         + "want a t 1 3 1;want a t 2 3 1;ill a 1;");
     check.due("on a later DAY: 60 and 20", full.best(0, 0, 60, 0, 3), 3);
     check.due("on a later DAY: 39 and 20", full.best(0, 0, 39, 0, 3), 2);
+    for (int earned = 1; earned <= 20; earned++) {
+      RotMoney y = check.town("sort a 1 1000 0;thing t 0 0;earn a 1 " + earned + ";price t 2 20;want a t 2 3 1;ill a 3;");
+      int[] had = {0, 19 - earned, 20 - earned, 39 - earned, 40 - earned, 59 - earned, 60 - earned, 61 - earned, 60};
+      for (int coins : had) {
+        if (coins >= 0 && coins <= 60) {
+          check.due(coins + ", and " + earned + " on the next DAY", y.best(0, 0, coins, 0, 3),
+              Math.min(60, coins + earned) / 20);
+        }
+      }
+    }
     check.says("II: the ACT with it, the least number of alike ones");
     RotMoney y = check.town("sort a 1 1000 0;thing t 0 0;want a t 0 3 9;want a t 1 3 0;");
     check.due("bought ahead of eaten from the STORE", y.bestAct(0, 0, 60, 5, 1), 3);
